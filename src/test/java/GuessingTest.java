@@ -153,9 +153,20 @@ public final class GuessingTest {
         Check.is("9.75", x.count(1), 1);
         x.clock(1, 0);
         Check.is("10.5", x.count(1), 0);
+        markGoesOnByTen();
         TrustModule y = guessed(3);
         y.clock(100, 0);
         Check.is("all at once", y.count(1), 0);
+    }
+
+    private static void markGoesOnByTen() {
+        TrustModule x = guessed(2);
+        x.clock(19, 2);
+        Check.is("19.0", x.count(1), 1);
+        x.clock(1, 0);
+        Check.is("19.75", x.count(1), 1);
+        x.clock(1, 0);
+        Check.is("20.5", x.count(1), 0);
     }
 
     private static void lockEndsWithTwo() {
