@@ -14,9 +14,15 @@ final class Check {
     static final Class<? extends RuntimeException> WRONG_GUESS = UnsupportedOperationException.class;
     static final Class<? extends RuntimeException> TAMPERED = ArithmeticException.class;
 
+    private static String sentence = "";
     private static int wrong = 0;
 
     private Check() {
+    }
+
+    /** Where the document says what the checks behind this hold the program to, and its words. */
+    static void says(String where, String words) {
+        sentence = where + ", \"" + words + "\": ";
     }
 
     /** H, written after the document's words and not after the program. */
@@ -34,7 +40,7 @@ final class Check {
     static void is(String what, Object got, Object due) {
         if (!due.equals(got)) {
             wrong++;
-            System.out.println(what + ": answered " + got + ", due is " + due);
+            System.out.println(sentence + what + ": answered " + got + ", due is " + due);
         }
     }
 
@@ -48,9 +54,25 @@ final class Check {
     /** The call is refused, and the object is then as one that it was never called on. */
     static void refusedUnchanged(String what, Supplier<TrustModule> make, Class<? extends RuntimeException> due,
             Consumer<TrustModule> call) {
-        TrustModule called = make.get();
-        refused(what, due, () -> call.accept(called));
-        is(what + ": all that can be seen afterwards", State.of(called), State.of(make.get()));
+        refused(what, due, () -> call.accept(make.get()));
+        same(what, Modules.tried(make, call), make);
+    }
+
+    /** The call loses power, and all else is as if it hadn't begun, both before power comes and afterwards. */
+    static void losesPower(String what, Supplier<TrustModule> make, Consumer<TrustModule> call) {
+        TrustModule before = make.get();
+        TrustModule after = make.get();
+        refused(what, LOST, () -> call.accept(after));
+        is(what + ": power left", after.count(3), 0);
+        is(what + ": lost", after.count(4), 1);
+        is(what + ": how often lost", after.count(7), before.count(7) + 1);
+        is(what + ": differs in all else", State.difference(State.butPower(Modules.tried(make, call)),
+                State.butPower(make)), "nothing");
+    }
+
+    /** The two kinds of making lead to objects that answer the same. */
+    static void same(String what, Supplier<TrustModule> made, Supplier<TrustModule> due) {
+        is(what + ": differs afterwards", State.difference(State.of(made), State.of(due)), "nothing");
     }
 
     static String outcome(Supplier<Object> call) {

@@ -1,21 +1,19 @@
+import java.util.function.Consumer;
+import java.util.function.Supplier;
+
 /** Objects in the states that many tests begin with. */
 final class Modules {
+    /** What a new SESSION meets after extend(0, 1, 9) and pcr(s, 0, 2). */
+    static final long POLICY = Check.h(Check.h(0, 11), Check.h(0, Check.h(0, 9)));
+
     private static final int UNITS_TO_FILL = 10;
+    private static final int UNITS_TO_USE = UNITS_TO_FILL + 2;
 
     private Modules() {
     }
 
     static TrustModule fresh() {
         return new TrustModule(1);
-    }
-
-    /** As full, but power was lost since. */
-    static TrustModule lost() {
-        TrustModule x = new TrustModule(1);
-        x.power(UNITS_TO_FILL);
-        fill(x);
-        Check.refused("define without power", Check.LOST, () -> x.define(2, false, 0));
-        return x;
     }
 
     /**
@@ -43,26 +41,85 @@ final class Modules {
         x.write(1, 0, 0);
     }
 
-    /** As full, but three wrong guesses lock the words. */
-    static TrustModule locked() {
-        TrustModule x = full();
-        for (int i = 0; i < 3; i++) {
-            Check.refused("a wrong guess", Check.WRONG_GUESS, () -> x.open(1, 8));
-        }
+    /**
+     * As full, with so many units of power left, INDEX 2 a cell with the policy that SESSION 0 meets, not written,
+     * SESSION 1 with a digest but without a look at PCRS, one wrong guess at 3.0, the clock at 5.5 and the rate 1.25: a
+     * refused call finds nothing here that it could reset without being seen.
+     */
+    static TrustModule used(int unitsLeft) {
+        TrustModule x = new TrustModule(1);
+        x.power(UNITS_TO_USE + unitsLeft);
+        fill(x);
+        x.define(2, false, POLICY);
+        x.with(1, 0, 0);
+        x.clock(3, 1);
+        guess(x);
+        x.clock(2, 0);
         return x;
     }
 
-    /** As full, but there is no free HANDLE. */
+    /** Used, with some power left. */
+    static TrustModule used() {
+        return used(50);
+    }
+
+    /** As used, but there is no free HANDLE: 3 is another primary key. */
     static TrustModule crowded() {
-        TrustModule x = full();
+        TrustModule x = used();
         x.primary(1, 1);
         return x;
     }
 
-    /** As full, but INDEX 2 is a cell with the policy that SESSION 0 meets. */
-    static TrustModule guarded() {
-        TrustModule x = full();
-        x.define(2, false, x.told(4, 0));
+    /** As used, but three wrong guesses lock the words. */
+    static TrustModule locked() {
+        TrustModule x = used();
+        guess(x);
+        guess(x);
         return x;
+    }
+
+    /** As used, but a PCR was extended since SESSION 0 looked. */
+    static TrustModule changed() {
+        TrustModule x = used();
+        x.extend(1, 7, 0);
+        return x;
+    }
+
+    /** As used, but power was lost since, with one of two parts done. */
+    static TrustModule lost() {
+        TrustModule x = used(1);
+        Check.refused("define without power", Check.LOST, () -> x.define(3, false, 0));
+        return x;
+    }
+
+    static void guess(TrustModule x) {
+        Check.refused("a wrong guess", Check.WRONG_GUESS, () -> x.open(1, 8));
+    }
+
+    /** Objects as made, on which the call was then done. */
+    static Supplier<TrustModule> then(Supplier<TrustModule> make, Consumer<TrustModule> call) {
+        return () -> {
+            TrustModule x = make.get();
+            call.accept(x);
+            return x;
+        };
+    }
+
+    /** Objects as made, on which the call was then tried, whatever it threw. */
+    static Supplier<TrustModule> tried(Supplier<TrustModule> make, Consumer<TrustModule> call) {
+        return then(make, x -> Check.outcome(() -> {
+            call.accept(x);
+            return "done";
+        }));
+    }
+
+    /** Objects as made, that lost power since by writing what stood in the cell already. */
+    static Supplier<TrustModule> lost(Supplier<TrustModule> make) {
+        return then(make, x -> {
+            for (int i = 0; i < 40 && x.count(4) == 0; i++) {
+                Check.outcome(() -> x.write(0, 0, 77));
+            }
+            Check.is("lost", x.count(4), 1);
+        });
     }
 }
